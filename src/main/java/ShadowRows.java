@@ -874,10 +874,13 @@ public final class ShadowRows {
             int row = search.order[laid];
             int shade = search.shadeOn(row, laid);
             int step = search.stepOf(row);
+            int limit = search.light.limits[row];
+            int length = search.field.length[row];
+            int sun = search.light.sun();
             for (int tilt = 0; tilt <= search.tops[row]; tilt++) {
-                int height = search.field.length[row] * Math.min(tilt, search.light.limits[row]);
+                int height = length * Math.min(tilt, limit);
+                int gain = Math.max(0, height - shade) * sun;
                 search.heights[row] = height;
-                int gain = Math.max(0, height - shade) * search.light.sun();
                 layRows(search, laid + 1, index + tilt * step, sum + gain);
             }
         }

@@ -57,6 +57,12 @@ public final class AnswerTest {
         Due.is("11: flat rows shade nobody", x.ofRow(1, 7), 3);
         Due.is("11: a flat row has no shade", x.ofRow(2, 7), 0);
         Due.is("11: but somebody to blame", x.ofRow(2, 8), 1);
+        ShadowRows z = new ShadowRows();
+        z.row(0, 1, 2);
+        z.row(1, 1, 4);
+        z.grant(0, 1, 0, 1);
+        Due.is("11: a shade of 1", z.inHour(1, 0, 2), 1);
+        Due.is("11: an hour with a shade of 1", z.ofRow(1, 7), 1);
         ShadowRows y = new ShadowRows();
         y.row(0, 3, 3);
         Due.is("11: alone", y.ofRow(0, 4), 300);

@@ -10,6 +10,7 @@ public final class FieldTest {
         wind();
         stow();
         grant();
+        eachRightIsItsOwn();
         shadowsByHour();
         shadowsRoundUp();
         tiltsByRights();
@@ -69,7 +70,9 @@ public final class FieldTest {
         Due.is("2: tilt -1", x.row(1, 1, -1), BAD_VALUE);
         Due.is("2: tilt 5", x.row(1, 1, 5), BAD_VALUE);
         Due.is("2: bad before taken", x.row(10, 0, 0), BAD_VALUE);
+        Due.is("2: taken by the first", x.row(10, 2, 2), NOT_POSSIBLE);
         Due.is("2: taken", x.row(12, 2, 2), NOT_POSSIBLE);
+        Due.is("2: taken by the last", x.row(14, 2, 2), NOT_POSSIBLE);
         Due.is("2: errors change nothing", x.count(0), 5);
         Due.is("2: errors record nothing", x.count(7), 5);
         Due.is("2: sixth", x.row(15, 1, 1), 5);
@@ -109,13 +112,19 @@ public final class FieldTest {
         x.wind(9, 8);
         Due.is("4: above STOW", x.inHour(0, 9, 1), 0);
         Due.is("4: other hours stand", x.inHour(0, 8, 0), 2);
-        Due.is("4: a change", x.count(7), 5);
+        Due.is("4: wind 0", x.wind(9, 0), 8);
+        Due.is("4: not flat any more", x.inHour(0, 9, 0), 2);
+        Due.is("4: a change", x.count(7), 6);
         Due.is("4: hour -1", x.wind(-1, 0), NO_SUCH);
         Due.is("4: hour 10", x.wind(10, 0), NO_SUCH);
         Due.is("4: no hour before a bad wind", x.wind(10, 10), NO_SUCH);
         Due.is("4: wind -1", x.wind(0, -1), BAD_VALUE);
         Due.is("4: wind 10", x.wind(0, 10), BAD_VALUE);
-        Due.is("4: errors record nothing", x.count(7), 5);
+        Due.is("4: errors change nothing", x.count(10), 0);
+        ShadowRows y = new ShadowRows();
+        y.wind(10, 0);
+        y.wind(0, 10);
+        Due.is("4: errors record nothing", y.count(7), 0);
     }
 
     private static void stow() {
@@ -162,6 +171,24 @@ public final class FieldTest {
         Due.is("6: right -1", x.grant(0, 1, 0, -1), BAD_VALUE);
         Due.is("6: right 1000", x.grant(0, 1, 0, 1000), BAD_VALUE);
         Due.is("6: errors record nothing", x.count(7), 5);
+    }
+
+    /** In some of the hours, as an object is used for at most 512 calls. */
+    private static void eachRightIsItsOwn() {
+        int[][] hours = {{0, 1, 2, 3, 4}, {5, 6, 7, 8, 9}, {0, 2, 5, 8, 9}};
+        for (int[] some : hours) {
+            ShadowRows x = new ShadowRows();
+            for (int row = 0; row < 6; row++) {
+                x.row(row, 1, 0);
+            }
+            for (int i = 0; i < 36 * some.length; i++) {
+                x.grant(i / 6 % 6, i % 6, some[i / 36], 500 + i);
+            }
+            for (int i = 0; i < 36 * some.length; i++) {
+                boolean same = i / 6 % 6 == i % 6;
+                Due.is("6: right " + i, x.over(i / 6 % 6, i % 6, some[i / 36], 0), same ? BAD_VALUE : 500 + i);
+            }
+        }
     }
 
     /** With the slopes 6, 4, 3, 2, 1 there and back, and 12 apart: 4, 6, 8, 12 and 24 are lost. */

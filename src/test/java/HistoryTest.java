@@ -4,11 +4,15 @@ public final class HistoryTest {
 
     public static void main(String[] args) {
         undoesEachChange();
+        undoesInARow();
         sixStates();
+        answersOfZero();
         whatUndoLeaves();
         save();
         restore();
         restoreAndUndo();
+        otherRows();
+        fullField();
         Due.end();
     }
 
@@ -57,6 +61,132 @@ public final class HistoryTest {
         Due.is("23: no bid", x.count(2), 0);
         Due.is("23: ask", x.undo(), 2);
         Due.is("23: no ask", x.count(1), 0);
+    }
+
+    /** Six changes at a time, each of another kind, so that each state has to be recorded by itself. */
+    private static void undoesInARow() {
+        ShadowRows x = twoRows();
+        x.row(9, 2, 2);
+        x.tilt(1, 4);
+        x.wind(3, 4);
+        x.stow(3);
+        Due.is("23: stow", x.undo(), 5);
+        Due.is("23: STOW", x.count(5), 7);
+        Due.is("23: the wind stays", x.count(13), 4);
+        Due.is("23: wind", x.undo(), 4);
+        Due.is("23: wind as before", x.count(13), 0);
+        Due.is("23: the tilt stays", x.ofRow(1, 2), 4);
+        Due.is("23: tilt", x.undo(), 3);
+        Due.is("23: tilt as before", x.ofRow(1, 2), 1);
+        Due.is("23: the row stays", x.count(0), 3);
+        Due.is("23: row", x.undo(), 2);
+        Due.is("23: two rows", x.count(0), 2);
+
+        x.grant(0, 1, 9, 7);
+        x.ask(0, 1, 20, 3);
+        x.bid(1, 0, 1, 30, 3);
+        x.match();
+        x.takeBack(1, 0);
+        Text.put(x, "t0=4;t1=4");
+        x.save(0);
+        x.carryOut();
+        x.restore(0);
+        Due.is("23: restore", x.undo(), 5);
+        Due.is("23: the text was carried out", x.ofRow(0, 2) + x.ofRow(1, 2), 8);
+        Due.is("23: carryOut", x.undo(), 4);
+        Due.is("23: tilts", x.ofRow(0, 2) + x.ofRow(1, 2), 2);
+        Due.is("23: taken back", x.count(2), 0);
+        Due.is("23: takeBack", x.undo(), 3);
+        Due.is("23: what was left of the bid", x.offer(1, 0, 2), 10);
+        Due.is("23: match", x.undo(), 2);
+        Due.is("23: the whole bid", x.offer(1, 0, 2), 30);
+        Due.is("23: bid", x.undo(), 1);
+        Due.is("23: no bid", x.count(2), 0);
+        Due.is("23: the ask", x.count(1), 1);
+        Due.is("23: ask", x.undo(), 0);
+        Due.is("23: no ask", x.count(1), 0);
+        Due.is("23: the right stays", x.over(0, 1, 9, 0), 7);
+        Due.is("23: the rows stay", x.count(0), 2);
+        Due.is("23: the seventh is gone", x.undo(), NOT_POSSIBLE);
+    }
+
+    /** A change is recorded whatever it answers. */
+    private static void answersOfZero() {
+        ShadowRows x = new ShadowRows();
+        for (int hour = 0; hour < 8; hour++) {
+            Due.is("23: answers 0", x.wind(hour, 5), 0);
+        }
+        x.match();
+        Due.is("23: six", x.count(7), 6);
+        for (int left = 5; left >= 0; left--) {
+            Due.is("23: left", x.undo(), left);
+            int lastOne = left + 2;
+            Due.is("23: stands", x.count(10 + lastOne), 5);
+            Due.is("23: is undone", x.count(11 + lastOne), 0);
+        }
+    }
+
+    /** The same numbers, but other rows. */
+    private static void otherRows() {
+        ShadowRows x = new ShadowRows();
+        x.row(3, 10, 1);
+        x.row(8, 11, 2);
+        x.save(0);
+        x.undo();
+        x.undo();
+        x.row(50, 4, 4);
+        x.row(60, 5, 3);
+        x.restore(0);
+        int[][] saved = {{3, 10, 1}, {8, 11, 2}};
+        rowsAre(x, saved);
+        x.undo();
+        int[][] built = {{50, 4, 4}, {60, 5, 3}};
+        rowsAre(x, built);
+    }
+
+    private static void rowsAre(ShadowRows x, int[][] rows) {
+        for (int row = 0; row < rows.length; row++) {
+            for (int what = 0; what < 3; what++) {
+                Due.is("25: row " + row + ", " + what, x.ofRow(row, what), rows[row][what]);
+            }
+        }
+    }
+
+    /** The last of all that there is, with six rows and ten offers. */
+    private static void fullField() {
+        ShadowRows x = new ShadowRows();
+        for (int row = 0; row < 6; row++) {
+            x.row(30 * row, row + 1, row % 5);
+        }
+        for (int i = 0; i < 10; i++) {
+            x.ask(5, 9, 10 + i, 100 + i);
+            x.bid(5, 4, 9, 20 + i, 200 + i);
+            x.wind(i, i % 7);
+        }
+        x.ask(4, 9, 1, 1);
+        x.grant(5, 4, 9, 77);
+        x.save(1);
+        while (x.count(1) > 0) {
+            x.takeBack(0, 0);
+        }
+        x.match();
+        x.takeBack(1, 9);
+        x.wind(9, 9);
+        x.tilt(5, 4);
+        x.grant(5, 4, 9, 1);
+        Due.is("25: six rows", x.restore(1), 6);
+        Due.is("25: the last ask", x.offer(0, 9, 2), 19);
+        Due.is("25: its price", x.offer(0, 9, 3), 109);
+        Due.is("25: the last bid", x.offer(1, 9, 2), 29);
+        Due.is("25: its buyer", x.offer(1, 9, 4), 5);
+        Due.is("25: the last wind", x.count(19), 2);
+        Due.is("25: the last tilt", x.ofRow(5, 2), 0);
+        Due.is("25: the last right", x.over(5, 4, 9, 0), 77);
+        x.undo();
+        Due.is("23: the last right", x.over(5, 4, 9, 0), 1);
+        Due.is("23: no asks", x.count(1), 0);
+        Due.is("23: nine bids", x.count(2), 9);
+        Due.is("23: the last tilt", x.ofRow(5, 2), 4);
     }
 
     private static void sixStates() {

@@ -10,6 +10,7 @@ public final class TextTest {
         faults();
         noFaults();
         carryOut();
+        nothingOfTheOldText();
         carryOutUpToAnError();
         carryOutIsOneChange();
         badText();
@@ -153,6 +154,20 @@ public final class TextTest {
         Due.is("22: one order", x.carryOut(), 1);
         Due.is("22: buyer", x.offer(1, 0, 4), 1);
         Due.is("22: seller", x.offer(1, 0, 0), 0);
+    }
+
+    private static void nothingOfTheOldText() {
+        ShadowRows x = twoRows();
+        Text.write(x, "a0@0*123:456;m");
+        Text.write(x, "a0@0*123:4");
+        Due.is("22: the text ends where it ends", x.fault(), NONE);
+        Due.is("22: one order", x.carryOut(), 1);
+        Due.is("22: the price", x.offer(0, 0, 3), 4);
+        Text.write(x, "t0=1");
+        Text.write(x, "t0");
+        Due.is("22: too early", x.fault(), 2);
+        x.wipe();
+        Due.is("22: empty", x.fault(), 0);
     }
 
     private static void carryOutUpToAnError() {

@@ -8,6 +8,7 @@ public final class WhatIfTest {
         bestTilt();
         bestTiltErrors();
         bestTilts();
+        bestTiltsInOneHour();
         bestTiltsOfManyRows();
         bestTiltsErrors();
         Due.end();
@@ -89,6 +90,9 @@ public final class WhatIfTest {
         Due.is("17: the least of several", x.bestTilt(1, 0), 0);
         Due.is("17: flat in all hours", x.bestTilt(1, 1), 150);
         Due.is("17: its tilt stays", x.ofRow(1, 2), 4);
+        x.tilt(1, 3);
+        x.bestTilt(1, 0);
+        Due.is("17: another tilt stays", x.ofRow(1, 2), 3);
     }
 
     private static void bestTiltErrors() {
@@ -140,6 +144,27 @@ public final class WhatIfTest {
         Due.is("18: row 0", tilts[0], best / 25);
         Due.is("18: row 1", tilts[1], best / 5 % 5);
         Due.is("18: row 2", tilts[2], best % 5);
+    }
+
+    /** In the shadow of the row 1, which may come up to 20, nothing of the height of the row 0 is in the sun. */
+    private static void bestTiltsInOneHour() {
+        for (int hour = 0; hour < 10; hour++) {
+            ShadowRows x = new ShadowRows();
+            for (int h = 0; h < 10; h++) {
+                x.wind(h, h == hour ? 6 : 7);
+            }
+            x.row(10, 1, 3);
+            x.row(hour < 5 ? 9 : 11, 20, 3);
+            x.grant(1, 0, hour, 20);
+            int sun = hour < 5 ? hour + 1 : 10 - hour;
+            Due.is("18: row 0 in hour " + hour, x.bestTilts(0), 0);
+            Due.is("18: row 1 in hour " + hour, x.bestTilts(1), 1);
+            Due.is("18: together in hour " + hour, x.bestTilts(9), 20 * sun + 210);
+            x.grant(1, 0, hour, 0);
+            Due.is("18: row 0 in hour " + hour + ", no right", x.bestTilts(0), 4);
+            Due.is("18: row 1 in hour " + hour + ", no right", x.bestTilts(1), 0);
+            Due.is("18: together in hour " + hour + ", no right", x.bestTilts(9), 4 * sun + 210);
+        }
     }
 
     private static void bestTiltsOfManyRows() {

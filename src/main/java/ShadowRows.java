@@ -479,10 +479,15 @@ public final class ShadowRows {
             if (!has(number)) {
                 return NO_SUCH;
             }
+            close(number);
+            return size;
+        }
+
+        /** The offers behind it move up by one place. */
+        private void close(int number) {
             int next = (number + 1) * OFFER_SIZE;
             System.arraycopy(values, next, values, next - OFFER_SIZE, size * OFFER_SIZE - next);
             size--;
-            return size;
         }
 
         void take(int number, int units) {
@@ -492,7 +497,7 @@ public final class ShadowRows {
         void removeEmpty() {
             for (int number = size - 1; number >= 0; number--) {
                 if (get(number, UNITS) == 0) {
-                    remove(number);
+                    close(number);
                 }
             }
         }

@@ -13,6 +13,13 @@ final class Text {
     }
 
     /** Appends a text of any length, eight characters at a time. */
+    static void append(ShadowRows x, String text) {
+        for (int from = 0; from < text.length(); from += 8) {
+            x.put(number(text.substring(from, Math.min(text.length(), from + 8))));
+        }
+    }
+
+    /** Appends a text, and looks at what put() answers. */
     static void put(ShadowRows x, String text) {
         for (int from = 0; from < text.length(); from += 8) {
             String part = text.substring(from, Math.min(text.length(), from + 8));

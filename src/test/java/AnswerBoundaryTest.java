@@ -145,7 +145,10 @@ public final class AnswerBoundaryTest {
         Due.is("as much as it needs", y.ofRow(1, 6), 9);
         ShadowRows alone = new ShadowRows();
         alone.row(0, 20, 4);
-        Due.is("in no hour", alone.ofRow(0, 6), 0);
+        for (int tilt = 0; tilt <= 4; tilt++) {
+            alone.tilt(0, tilt);
+            Due.is("in no hour with the tilt " + tilt, alone.ofRow(0, 6), 0);
+        }
         alone.wind(0, 9);
         Due.is("the wind does not count", alone.ofRow(0, 6), 0);
     }

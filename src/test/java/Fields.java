@@ -38,6 +38,25 @@ final class Fields {
         return x;
     }
 
+    /** Fills a field without rows: with all rows and offers that there can be. Of another kind all of them are others. */
+    static ShadowRows fill(ShadowRows x, int kind) {
+        for (int row = 0; row < 6; row++) {
+            x.row(20 * row + 3 + 5 * kind, row + 1 + 3 * kind, (row + kind) % 5);
+            x.grant(row, (row + 1 + kind) % 6, row + kind, 700 + row + kind);
+        }
+        for (int i = 0; i < 10; i++) {
+            x.wind(i, (i + kind) % 7);
+            x.ask((i + kind) % 6, (i + kind) % 10, 50 + i + kind, 60 + i + kind);
+            x.bid((i + kind) % 6, (i + 1 + 2 * kind) % 6, (i + kind) % 10, 70 + i + kind, 20 + i + kind);
+        }
+        x.stow(6 + kind);
+        return x;
+    }
+
+    static ShadowRows full() {
+        return fill(new ShadowRows(), 0);
+    }
+
     static Supplier<ShadowRows> busyWith(int rows) {
         return () -> busy(rows);
     }

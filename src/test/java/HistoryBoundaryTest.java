@@ -82,6 +82,17 @@ public final class HistoryBoundaryTest {
             x.undo();
             return x;
         }, Fields.busyWith(5), "carryOut(), and then undo()");
+        Twin.alikeFields(() -> {
+            ShadowRows x = new ShadowRows();
+            x.save(1);
+            Fields.fill(x, 1);
+            x.save(0);
+            x.restore(1);
+            Fields.fill(x, 0);
+            x.restore(0);
+            x.undo();
+            return x;
+        }, Fields::full, "a full field, restore() of another full one, and then undo()");
     }
 
     private static void undoLeavesThePad() {
@@ -407,6 +418,16 @@ public final class HistoryBoundaryTest {
                 }, Fields.busyWith(rows), rows + " rows, save(" + slot + "), changes, restore(" + slot + ")");
             }
         }
+        Twin.alikeFields(() -> {
+            ShadowRows x = new ShadowRows();
+            x.save(1);
+            Fields.fill(x, 0);
+            x.save(0);
+            x.restore(1);
+            Fields.fill(x, 1);
+            x.restore(0);
+            return x;
+        }, Fields::full, "a full field, another full one, and restore() of the first");
         ShadowRows x = Fields.rows(2);
         x.put('m');
         x.save(0);

@@ -688,5 +688,15 @@ public final class TradeBoundaryTest {
         x.ask(1, 4, 1, 4);
         Due.is("1 more", x.match(), 1);
         Due.is("21 so far", x.count(4), 21);
+        ShadowRows y = offers(2, 2);
+        y.ask(0, 0, 5, 3);
+        y.bid(1, 0, 0, 4, 9);
+        Due.is("the last ask with the last bid, and its last unit with the first bid", y.match(), 5);
+        y.bid(1, 0, 0, 200, 9);
+        Due.is("then the other two asks", y.match(), 3);
+        Due.is("no ask is left", y.count(1), 0);
+        y.ask(0, 0, 1, 0);
+        Due.is("then one for the bid that was made last", y.match(), 1);
+        Due.is("which still has most of its units", y.offer(1, 1, 2), 196);
     }
 }

@@ -335,6 +335,7 @@ public final class WhatIfBoundaryTest {
         Doc.promise(18, "of several those with the least tilt of the row 0, of these of the row 1, and so on.");
         for (int rows = 1; rows <= 6; rows++) {
             ShadowRows flat = Fields.rows(rows);
+            Due.isTrue("not flat yet", flat.bestTilts(9) >= flat.count(3));
             for (int hour = 0; hour < 10; hour++) {
                 flat.wind(hour, 7);
             }
@@ -351,6 +352,13 @@ public final class WhatIfBoundaryTest {
             Due.is("no more than its right", x.bestTilts(0), limit);
             Due.is("in the shadow none, if there is one", x.bestTilts(1), limit == 0 ? 4 : 0);
             Due.is("together", x.bestTilts(9), (limit == 0 ? 4 : 20 * limit) + 210);
+            ShadowRows y = new ShadowRows();
+            y.row(101, 1, 4);
+            y.row(100, 20, 0);
+            y.grant(1, 0, 0, Math.max(0, 20 * limit - 1));
+            Fields.stowAllBut(y, 0);
+            Due.is("the other row has the right", y.bestTilts(1), limit);
+            Due.is("in its shadow none, if there is one", y.bestTilts(0), limit == 0 ? 4 : 0);
         }
     }
 

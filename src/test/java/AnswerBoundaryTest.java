@@ -197,6 +197,9 @@ public final class AnswerBoundaryTest {
             last.grant(5, over, 9, 999);
         }
         Due.is("the last of six rows", last.ofRow(4, 8), 5);
+        Due.is("for the one before it, too", last.ofRow(3, 8), 5);
+        last.wind(9, 9);
+        Due.is("nobody any more", last.ofRow(4, 8), NONE);
     }
 
     /** The first and the second have lower and higher numbers; each one's shadow falls on the middle in five hours. */

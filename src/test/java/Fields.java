@@ -38,12 +38,17 @@ final class Fields {
         return x;
     }
 
-    /** Fills a field without rows: with all rows and offers that there can be. Of another kind all of them are others. */
+    /** Fills a field without rows: with all rows and offers that there can be, and purses. Of another kind all are others. */
     static ShadowRows fill(ShadowRows x, int kind) {
         for (int row = 0; row < 6; row++) {
             x.row(20 * row + 3 + 5 * kind, row + 1 + 3 * kind, (row + kind) % 5);
-            x.grant(row, (row + 1 + kind) % 6, row + kind, 700 + row + kind);
+            x.ask(row, 9 - row, 100 + row + kind, 10 + row * row + kind);
         }
+        for (int row = 0; row < 6; row++) {
+            x.grant(row, (row + 1 + kind) % 6, row + kind, 700 + row + kind);
+            x.bid((row + 1) % 6, row, 9 - row, 100 + row + kind, 999);
+        }
+        x.match();
         for (int i = 0; i < 10; i++) {
             x.wind(i, (i + kind) % 7);
             x.ask((i + kind) % 6, (i + kind) % 10, 50 + i + kind, 60 + i + kind);

@@ -188,6 +188,18 @@ public final class TradeBoundaryTest {
             Due.is("its seller, its hour", x.match(), 1);
             Due.is("the others stay", x.count(1), 4);
         }
+        ShadowRows all = Fields.rows(6);
+        for (int i = 0; i < 10; i++) {
+            all.ask(i % 6, i, 10 + i, 5);
+        }
+        for (int i = 9; i >= 0; i--) {
+            all.bid((i + 1) % 6, i % 6, i, 20 + i, 5);
+        }
+        Due.is("each of ten bids has its ask", all.match(), 145);
+        for (int i = 0; i < 10; i++) {
+            Due.is("the right in the hour " + i, all.over((i + 1) % 6, i % 6, i, 0), 10 + i);
+            offerIs(all, 1, 9 - i, i % 6, i, 10, 5, (i + 1) % 6);
+        }
     }
 
     private static void asksWithPricesNotAbove() {

@@ -166,12 +166,12 @@ public final class HistoryBoundaryTest {
             }
         }
         ShadowRows x = new ShadowRows();
-        for (int i = 0; i < 500; i++) {
+        for (int i = 0; i < 499; i++) {
             x.wind(0, i % 10);
         }
         for (int left = 5; left >= 0; left--) {
-            Due.is("six of 500", x.undo(), left);
-            Due.is("the state", x.count(10), (493 + left) % 10);
+            Due.is("six of 499", x.undo(), left);
+            Due.is("the state", x.count(10), (492 + left) % 10);
         }
         Due.is("no seventh", x.undo(), NOT_POSSIBLE);
     }

@@ -1,13 +1,17 @@
-/** All promises: runs of 512 calls, the same ones in every run of this test, answered by the program and by PlainModel. */
+/** All promises: runs of up to 512 calls, the same ones in every run of this test, answered by the program and by PlainModel. */
 public final class ModelTest {
     private static final int RUNS = 400, CALLS = 512;
+
+    /** What one step may call at most: it may write a text of seven orders, of two offers each, and look at its fault. */
+    private static final int CALLS_OF_A_STEP = 24;
     private static final int METHODS = 24;
 
     /** How often the methods are called, of the 24 in the order of the face. */
     private static final int[] WEIGHTS = {30, 40, 25, 8, 60, 40, 60, 15, 40, 60, 80, 60, 50, 50, 40, 15, 3, 60, 8, 15, 40, 30, 12, 12};
 
     private long seed;
-    private final ShadowRows x = new ShadowRows();
+    private final ShadowRows object = new ShadowRows();
+    private int calls = 0;
     private final PlainModel model = new PlainModel();
     private final int span;
     private final int mostRows;
@@ -31,11 +35,19 @@ public final class ModelTest {
     }
 
     private void run(int run) {
-        for (int call = 0; call < CALLS; call++) {
-            if (!one(run, call)) {
+        for (int step = 0; calls <= CALLS - CALLS_OF_A_STEP; step++) {
+            int before = calls;
+            if (!one(run, step)) {
                 return;
             }
+            Due.isTrue("a step takes up to " + CALLS_OF_A_STEP + " calls", calls - before <= CALLS_OF_A_STEP);
         }
+    }
+
+    /** The object, for one call: after 512 of them its answers are free. */
+    private ShadowRows x() {
+        calls++;
+        return object;
     }
 
     private int below(int bound) {
@@ -70,14 +82,14 @@ public final class ModelTest {
         return method;
     }
 
-    private boolean one(int run, int call) {
-        int method = call < 3 ? 0 : method();
+    private boolean one(int run, int step) {
+        int method = step < 3 ? 0 : method();
         if (method == 0 && model.count(0) >= mostRows && below(4) != 0) {
             method = 4;
         }
         int[] a = new int[5];
         long[] answers = method < 5 ? change(method, a) : method < 9 ? trade(method, a) : method < 17 ? ask(method, a) : rest(method, a);
-        StringBuilder name = new StringBuilder("run " + run + ", call " + call + ", method " + method + " of the face (");
+        StringBuilder name = new StringBuilder("run " + run + ", step " + step + ", method " + method + " of the face (");
         for (int argument : a) {
             name.append(' ').append(argument);
         }
@@ -99,24 +111,24 @@ public final class ModelTest {
                 a[0] = below(strayEvery) == 0 ? some(0, 200) : below(span);
                 a[1] = some(1, 20);
                 a[2] = some(0, 4);
-                return both(x.row(a[0], a[1], a[2]), model.row(a[0], a[1], a[2]));
+                return both(x().row(a[0], a[1], a[2]), model.row(a[0], a[1], a[2]));
             case 1:
                 a[0] = someRow();
                 a[1] = some(0, 4);
-                return both(x.tilt(a[0], a[1]), model.tilt(a[0], a[1]));
+                return both(x().tilt(a[0], a[1]), model.tilt(a[0], a[1]));
             case 2:
                 a[0] = some(0, 9);
                 a[1] = some(0, below(3) == 0 ? 9 : 6);
-                return both(x.wind(a[0], a[1]), model.wind(a[0], a[1]));
+                return both(x().wind(a[0], a[1]), model.wind(a[0], a[1]));
             case 3:
                 a[0] = some(below(3) == 0 ? 1 : 6, 10);
-                return both(x.stow(a[0]), model.stow(a[0]));
+                return both(x().stow(a[0]), model.stow(a[0]));
             default:
                 a[0] = someRow();
                 a[1] = someRow();
                 a[2] = some(0, 9);
                 a[3] = some(0, highRight - 1);
-                return both(x.grant(a[0], a[1], a[2], a[3]), model.grant(a[0], a[1], a[2], a[3]));
+                return both(x().grant(a[0], a[1], a[2], a[3]), model.grant(a[0], a[1], a[2], a[3]));
         }
     }
 
@@ -128,20 +140,20 @@ public final class ModelTest {
                 a[1] = some(3, 4);
                 a[2] = some(1, below(3) == 0 ? 200 : 12);
                 a[3] = some(0, below(3) == 0 ? 999 : 6);
-                return both(x.ask(a[0], a[1], a[2], a[3]), model.ask(a[0], a[1], a[2], a[3]));
+                return both(x().ask(a[0], a[1], a[2], a[3]), model.ask(a[0], a[1], a[2], a[3]));
             case 6:
                 a[0] = someRow();
                 a[1] = below(2) == 0 ? 0 : someRow();
                 a[2] = some(3, 4);
                 a[3] = some(1, below(3) == 0 ? 200 : 12);
                 a[4] = some(0, below(3) == 0 ? 999 : 6);
-                return both(x.bid(a[0], a[1], a[2], a[3], a[4]), model.bid(a[0], a[1], a[2], a[3], a[4]));
+                return both(x().bid(a[0], a[1], a[2], a[3], a[4]), model.bid(a[0], a[1], a[2], a[3], a[4]));
             case 7:
                 a[0] = some(0, 1);
                 a[1] = some(0, 9);
-                return both(x.takeBack(a[0], a[1]), model.takeBack(a[0], a[1]));
+                return both(x().takeBack(a[0], a[1]), model.takeBack(a[0], a[1]));
             default:
-                return both(x.match(), model.match());
+                return both(x().match(), model.match());
         }
     }
 
@@ -150,33 +162,33 @@ public final class ModelTest {
         switch (method) {
             case 9:
                 a[1] = some(0, 8);
-                return both(x.ofRow(a[0], a[1]), model.ofRow(a[0], a[1]));
+                return both(x().ofRow(a[0], a[1]), model.ofRow(a[0], a[1]));
             case 10:
                 a[1] = some(0, 9);
                 a[2] = some(0, 4);
-                return both(x.inHour(a[0], a[1], a[2]), model.inHour(a[0], a[1], a[2]));
+                return both(x().inHour(a[0], a[1], a[2]), model.inHour(a[0], a[1], a[2]));
             case 11:
                 a[1] = someRow();
                 a[2] = some(0, 9);
                 a[3] = some(0, 2);
-                return both(x.over(a[0], a[1], a[2], a[3]), model.over(a[0], a[1], a[2], a[3]));
+                return both(x().over(a[0], a[1], a[2], a[3]), model.over(a[0], a[1], a[2], a[3]));
             case 12:
                 a[0] = some(0, 1);
                 a[1] = some(0, 9);
                 a[2] = some(0, 4);
-                return both(x.offer(a[0], a[1], a[2]), model.offer(a[0], a[1], a[2]));
+                return both(x().offer(a[0], a[1], a[2]), model.offer(a[0], a[1], a[2]));
             case 13:
                 a[0] = some(0, below(2) == 0 ? 7 : 19);
-                return both(x.count(a[0]), model.count(a[0]));
+                return both(x().count(a[0]), model.count(a[0]));
             case 14:
                 a[1] = someRow();
                 a[2] = some(0, 9);
                 a[3] = some(0, highRight - 1);
                 a[4] = some(0, 2);
-                return both(x.worth(a[0], a[1], a[2], a[3], a[4]), model.worth(a[0], a[1], a[2], a[3], a[4]));
+                return both(x().worth(a[0], a[1], a[2], a[3], a[4]), model.worth(a[0], a[1], a[2], a[3], a[4]));
             case 15:
                 a[1] = some(0, 1);
-                return both(x.bestTilt(a[0], a[1]), model.bestTilt(a[0], a[1]));
+                return both(x().bestTilt(a[0], a[1]), model.bestTilt(a[0], a[1]));
             default:
                 return bestTilts();
         }
@@ -184,7 +196,7 @@ public final class ModelTest {
 
     private long[] bestTilts() {
         for (int what = -1; what < 11; what++) {
-            int got = x.bestTilts(what);
+            int got = x().bestTilts(what);
             int due = model.bestTilts(what);
             if (got != due) {
                 return both(got, due);
@@ -198,19 +210,19 @@ public final class ModelTest {
             case 17:
                 return put();
             case 18:
-                return both(x.wipe(), model.wipe());
+                return both(x().wipe(), model.wipe());
             case 19:
-                return both(x.fault(), model.fault());
+                return both(x().fault(), model.fault());
             case 20:
                 return carryOut();
             case 21:
-                return both(x.undo(), model.undo());
+                return both(x().undo(), model.undo());
             case 22:
                 a[0] = some(0, 1);
-                return both(x.save(a[0]), model.save(a[0]));
+                return both(x().save(a[0]), model.save(a[0]));
             default:
                 a[0] = some(0, 1);
-                return both(x.restore(a[0]), model.restore(a[0]));
+                return both(x().restore(a[0]), model.restore(a[0]));
         }
     }
 
@@ -228,20 +240,20 @@ public final class ModelTest {
 
     private long[] putNumber(long number) {
         text = Long.toString(number);
-        return both(x.put(number), model.put(number));
+        return both(x().put(number), model.put(number));
     }
 
     /** Mostly writes orders first, one sign of which may be another. */
     private long[] carryOut() {
         if (below(4) != 0) {
-            x.wipe();
+            x().wipe();
             model.wipe();
             writeOrders();
         }
-        if (x.fault() != model.fault()) {
-            return both(x.fault(), model.fault());
+        if (x().fault() != model.fault()) {
+            return both(x().fault(), model.fault());
         }
-        return both(x.carryOut(), model.carryOut());
+        return both(x().carryOut(), model.carryOut());
     }
 
     private void writeOrders() {
@@ -258,7 +270,7 @@ public final class ModelTest {
         text = all.toString();
         for (int from = 0; from < all.length(); from += 8) {
             long part = Text.number(all.substring(from, Math.min(all.length(), from + 8)));
-            x.put(part);
+            x().put(part);
             model.put(part);
         }
     }
